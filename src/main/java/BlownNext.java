@@ -34,17 +34,13 @@ public final class BlownNext {
     private static final int OF_SMITH = 10;
     private static final int NOBODY = 0;
 
-    private final byte[] tape = new byte[MOST_BYTES];
-    private int fed;
-    private int faultKind;
-    private int faultPlace = NONE;
     private final Street now = new Street();
     /** What is only "as if" happens here, so that no call makes a street of its own. */
     private final Street spare = new Street();
     private final Street[] images = new Street[IMAGES];
     private final boolean[] imageMade = new boolean[IMAGES];
     private final NumberRow[] rows = new NumberRow[ROWS];
-    private final Reader reader = new Reader(tape);
+    private final Reader tape = new Reader();
     private final ToldMinutes told = new ToldMinutes();
     private final Rhythms rhythms = new Rhythms();
     private final Layout layout = new Layout();
@@ -63,34 +59,24 @@ public final class BlownNext {
     // ---- the street
 
     public int feed(int a, int b, int c, int d, int e) {
-        if (fed + FED_BYTES > MOST_BYTES) {
+        if (tape.fed + FED_BYTES > MOST_BYTES) {
             return NOT_NOW;
         }
-        putBytes(a);
-        putBytes(b);
-        putBytes(c);
-        putBytes(d);
-        putBytes(e);
-        return fed;
-    }
-
-    private void putBytes(int four) {
-        for (int shift = 24; shift >= 0 && fed < MOST_BYTES; shift -= 8) {
-            tape[fed] = (byte) (four >> shift);
-            fed++;
-        }
+        tape.putBytes(a);
+        tape.putBytes(b);
+        tape.putBytes(c);
+        tape.putBytes(d);
+        tape.putBytes(e);
+        return tape.fed;
     }
 
     public int street(int n) {
-        if (n < 0 || n > fed) {
+        if (!isWithin(n, 0, tape.fed)) {
             return BAD_NUMBER;
         }
-        fed = 0;
-        reader.readStreet(n, spare);
-        faultKind = reader.fault;
-        faultPlace = reader.place;
-        if (faultKind != 0) {
-            return BAD_TEXT - faultKind;
+        tape.readStreet(n, spare);
+        if (tape.fault != 0) {
+            return BAD_TEXT - tape.fault;
         }
         now.takeFrom(spare);
         return now.lines;
@@ -99,9 +85,9 @@ public final class BlownNext {
     public int fault(int what) {
         switch (what) {
             case 0:
-                return faultKind;
+                return tape.fault;
             case 1:
-                return faultPlace;
+                return tape.place;
             default:
                 return NONE;
         }
@@ -655,7 +641,7 @@ public final class BlownNext {
             case 5:
                 return now.heatTogether();
             case 6:
-                return fed;
+                return tape.fed;
             case 7:
                 return now.lines;
             case 8:
@@ -751,6 +737,15 @@ public final class BlownNext {
             minute = 0;
             lines = 0;
             loss = MOST_STROKES;
+        }
+
+        /** Who was not told to blow a fire (NONE) blows the next one's. */
+        void layUntoldRopes() {
+            for (int i = 0; i < size; i++) {
+                if (to[i] == NONE) {
+                    to[i] = i + 1 < size ? i + 1 : 0;
+                }
+            }
         }
 
         boolean isSmith(int i) {
@@ -968,13 +963,14 @@ public final class BlownNext {
         }
     }
 
-    /** Reads THE STREET from its text, TOKEN by TOKEN. */
+    /** THE TAPE, from which THE STREET is read TOKEN by TOKEN, and the FAULT of the latest reading. */
     private static final class Reader {
         private static final int WORD = 1;
         private static final int NUMBER = 2;
         private static final int SIGN = 3;
-        private static final int END = 4;
-        private static final int NO_TOKEN = 5;
+        private static final int BLANK = 4;
+        private static final int END = 5;
+        private static final int NO_TOKEN = 6;
 
         private static final int FAULT_NO_TOKEN = 1;
         private static final int FAULT_MISPLACED = 2;
@@ -983,50 +979,50 @@ public final class BlownNext {
 
         private static final int MOST_DIGITS = 3;
 
+        int fed;
         int fault;
-        int place;
-        private final byte[] text;
+        int place = NONE;
+        private final byte[] text = new byte[MOST_BYTES];
         private int end;
-        /** The TOKEN to be judged next: its kind, where it begins, where it has ended, an N's worth. */
+        /** The TOKEN to be judged next: its kind, where it begins, where it has ended. */
         private int kind;
         private int from;
         private int behind;
-        private int worth;
 
-        Reader(byte[] tape) {
-            text = tape;
+        void putBytes(int four) {
+            for (int shift = 24; shift >= 0 && fed < MOST_BYTES; shift -= 8) {
+                text[fed] = (byte) (four >> shift);
+                fed++;
+            }
         }
 
         /** Where a FAULT is told, what has come into the street is of no use. */
         void readStreet(int n, Street street) {
-            end = Math.min(n, text.length);
+            end = Math.min(n, fed);
+            fed = 0;
             behind = 0;
             fault = 0;
             place = NONE;
             street.clear();
             Arrays.fill(street.to, NONE);
             nextToken();
-            for (int k = 0; k <= n && fault == 0 && kind != END; k++) {
-                readLine(street);
-            }
-            for (int i = 0; i < street.size; i++) {
-                if (street.to[i] == NONE) {
-                    street.to[i] = i + 1 < street.size ? i + 1 : 0;
+            for (int k = 0; k <= end && fault == 0 && kind != END; k++) {
+                if (isWord("smith")) {
+                    readSmith(street);
+                } else if (isWord("blows")) {
+                    readBlows(street);
+                } else if (isWord("burnt")) {
+                    nextToken();
+                    street.loss = takeNumber(0, MOST_STROKES);
+                } else {
+                    fail(FAULT_MISPLACED);
                 }
+                endLine(street);
             }
+            street.layUntoldRopes();
         }
 
-        private void readLine(Street street) {
-            if (isWord("smith")) {
-                readSmith(street);
-            } else if (isWord("blows")) {
-                readBlows(street);
-            } else if (isWord("burnt")) {
-                nextToken();
-                street.loss = takeNumber(0, MOST_STROKES);
-            } else {
-                fail(FAULT_MISPLACED);
-            }
+        private void endLine(Street street) {
             if (kind != SIGN) {
                 fail(FAULT_MISPLACED);
             }
@@ -1071,6 +1067,10 @@ public final class BlownNext {
 
         /** An N is judged before the TOKEN behind it is looked at, whose FAULT would be a later one. */
         private int takeNumber(int least, int most) {
+            int worth = 0;
+            for (int at = from; kind == NUMBER && at < behind; at++) {
+                worth = 10 * worth + text[at] - '0';
+            }
             if (kind != NUMBER) {
                 fail(FAULT_MISPLACED);
             } else if (!isWithin(worth, least, most)) {
@@ -1079,9 +1079,8 @@ public final class BlownNext {
             if (fault != 0) {
                 return 0;
             }
-            int taken = worth;
             nextToken();
-            return taken;
+            return worth;
         }
 
         /** The first FAULT is the one that counts. */
@@ -1106,57 +1105,35 @@ public final class BlownNext {
 
         private void nextToken() {
             from = behind;
-            while (from < end && isBlank(text[from])) {
+            while (from < end && kindAt(from) == BLANK) {
                 from++;
             }
-            behind = from;
-            if (from >= end) {
-                kind = END;
-            } else if (isLetter(text[from])) {
-                takeWord();
-            } else if (isDigit(text[from])) {
-                takeDigits();
-            } else if (text[from] == ';') {
-                kind = SIGN;
+            kind = kindAt(from);
+            behind = Math.min(from + 1, end);
+            while (behind < end && (kind == WORD || kind == NUMBER) && kindAt(behind) == kind) {
                 behind++;
-            } else {
+            }
+            if (kind == NO_TOKEN || kind == NUMBER && behind - from > MOST_DIGITS) {
                 kind = NO_TOKEN;
                 fail(FAULT_NO_TOKEN);
             }
         }
 
-        private void takeWord() {
-            kind = WORD;
-            while (behind < end && isLetter(text[behind])) {
-                behind++;
+        private int kindAt(int at) {
+            if (at >= end) {
+                return END;
             }
-        }
-
-        private void takeDigits() {
-            kind = NUMBER;
-            worth = 0;
-            while (behind < end && isDigit(text[behind])) {
-                if (behind - from < MOST_DIGITS) {
-                    worth = 10 * worth + text[behind] - '0';
-                }
-                behind++;
+            byte sign = text[at];
+            if (sign >= 'a' && sign <= 'z') {
+                return WORD;
             }
-            if (behind - from > MOST_DIGITS) {
-                kind = NO_TOKEN;
-                fail(FAULT_NO_TOKEN);
+            if (sign >= '0' && sign <= '9') {
+                return NUMBER;
             }
-        }
-
-        private static boolean isBlank(byte b) {
-            return b == 10 || b == 32;
-        }
-
-        private static boolean isLetter(byte b) {
-            return b >= 'a' && b <= 'z';
-        }
-
-        private static boolean isDigit(byte b) {
-            return b >= '0' && b <= '9';
+            if (sign == 10 || sign == 32) {
+                return BLANK;
+            }
+            return sign == ';' ? SIGN : NO_TOKEN;
         }
     }
 
@@ -1376,11 +1353,14 @@ public final class BlownNext {
         private final int[] heat = new int[MOST_SOUGHT];
         private final int[] strokes = new int[MOST_SOUGHT];
         private final int[] heatNext = new int[MOST_SOUGHT];
+        /** By how much the HEAT of i changes, if a set of SMITHS pulls: at MOST_SOUGHT times the set and i. */
+        private final int[] change = new int[MOST_SOUGHT << MOST_SOUGHT];
 
         /** For a street whose PIECES are not all DONE. */
         int minutesToEnd(Street street) {
             Arrays.fill(slots, 0);
             met = 0;
+            weighChanges(street);
             meetPresent(street);
             int first = 0;
             for (int minutes = 1; minutes <= MOST_STATES + 1; minutes++) {
@@ -1403,6 +1383,14 @@ public final class BlownNext {
                 first = last;
             }
             return NONE;
+        }
+
+        private void weighChanges(Street street) {
+            for (int pull = 0; pull <= street.everyone(); pull++) {
+                for (int i = 0; i < street.size; i++) {
+                    change[MOST_SOUGHT * pull + i] = street.blastOn(i, pull) - street.cool[i];
+                }
+            }
         }
 
         private void meetPresent(Street street) {
@@ -1450,7 +1438,7 @@ public final class BlownNext {
             // a stroke that doesn't count is as a rest: only those who are able need to strike
             for (int pull = 0; pull <= street.everyone(); pull++) {
                 for (int i = 0; i < street.size; i++) {
-                    heatNext[i] = bounded(heat[i] + street.blastOn(i, pull) - street.cool[i]);
+                    heatNext[i] = bounded(heat[i] + change[MOST_SOUGHT * pull + i]);
                 }
                 for (int strike = 0; strike <= able; strike++) {
                     if ((strike & ~able) == 0 && (strike & pull) == 0) {
