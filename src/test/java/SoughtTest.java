@@ -22,18 +22,24 @@ public final class SoughtTest {
     private static void soonest() {
         soonest("smith 10 heat 50 piece 3;blows 0 0;", 3);
         soonest("smith 10 heat 50 piece 0;blows 0 0;", 0);
-        // 25 20 (struck) 30 25 (struck) 20 (struck)
+        // at 20 a stroke, 15; a pull, 20; a stroke
         soonest("smith 10 heat 20 piece 1;blows 0 0;", 1);
         soonest("smith 10 heat 19 piece 1;blows 0 0;", 2);
         soonest("smith 10 heat 20 piece 2;blows 0 0;", 3);
         soonest("smith 5 heat 19 piece 1;blows 0 0;", -1);
         soonest("smith 10 cool 0 heat 101 piece 1;blows 0 0;", -1);
         soonest("smith 10 heat 101 piece 1;blows 0 0;", 2);
-        // each stroke is lost, as the fire of 1 is needed above HIGH of none: he strikes once warm
+        // 0 blows the cold fire of 1 twice and strikes twice, 1 once at 20
         soonest("smith 10 heat 50 piece 2;smith 10 heat 10 piece 1;", 3 + 1);
         soonest("smith 1;smith 1;smith 1;smith 1;", -4);
         soonest("smith 1 piece 0;smith 1 piece 0;smith 1 piece 0;smith 1 piece 0;", -4);
         soonest("smith 7 piece 20;smith 11 cool 3 piece 20;smith 13 cool 2 piece 20;", -4);
+        // smith 1 is never done and never otherwise; fire and piece of smith 0 have 3,000 states, or one more
+        String never = "smith 0 cool 0 piece 1;blows 0 0;blows 1 1;";
+        soonest("smith 34 cool 7 heat 33 low 184 high 197 piece 14;burnt 5;" + never, -1);
+        soonest("smith 59 cool 6 heat 162 low 57 high 115 piece 18;burnt 7;" + never, -1);
+        soonest("smith 46 cool 5 heat 140 low 108 high 198 piece 14;burnt 7;" + never, -4);
+        soonest("smith 57 cool 25 heat 13 low 155 high 168 piece 16;burnt 13;" + never, -4);
         BlownNext x = Check.streetOf("smith 10 heat 50 piece 3;blows 0 0;");
         CHECK.due("27 soonest", x.soonest(), 3);
         x.minute(0, 1);
@@ -124,9 +130,11 @@ public final class SoughtTest {
         CHECK.due("31 lazy(2, 5): his own", x.lazy(2, 5), 1);
         CHECK.due("31 lazy(0, 1)", x.lazy(0, 1), 1);
         CHECK.due("31 lazy(1, 1)", x.lazy(1, 1), 0);
-        // a lazy one may bring more: the other would burn his piece
-        x = Check.streetOf("smith 30 heat 65 low 60 piece 2;smith 30 piece 0;blows 1 0;blows 0 1;");
-        CHECK.due("31 lazy(2, 0)", x.lazy(2, 0), -2);
+        // a lazy one may bring more: both together bring a fire that does not cool above HIGH
+        x = Check.streetOf("smith 0 cool 0 high 70 piece 2;smith 20 piece 0;smith 60 piece 0;blows 1 0;blows 2 0;");
+        CHECK.due("31 lazy(2, 9)", x.lazy(2, 9), -1);
+        CHECK.due("31 lazy(0, 9)", x.lazy(0, 9), 0);
+        CHECK.due("31 lazy(3, 0)", x.lazy(3, 0), -2);
         CHECK.due("31 lazy(-1, 5)", x.lazy(-1, 5), -2);
         CHECK.due("31 lazy(0, 0)", x.lazy(0, 0), -3);
         CHECK.due("31 lazy(0, 201)", x.lazy(0, 201), -3);

@@ -95,6 +95,12 @@ public final class StreetTest {
         fault("smiths 0;", 2, 0);
         fault("smit 0;", 2, 0);
         fault("cool 0;", 2, 0);
+        fault("z;", 2, 0);
+        fault("a;", 2, 0);
+        fault("`;", 1, 0);
+        fault("{;", 1, 0);
+        fault("smith /;", 1, 6);
+        fault("smith :;", 1, 6);
         fault("smith 0;blows 0;", 2, 15);
         fault("burnt;", 2, 5);
         fault(";", 2, 0);
