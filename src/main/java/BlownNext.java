@@ -191,7 +191,7 @@ public final class BlownNext {
             case 3:
                 return spare.piecesDone();
             default:
-                return spare.timesBurnt() - now.timesBurnt();
+                return spare.burnings - now.burnings;
         }
     }
 
@@ -472,15 +472,19 @@ public final class BlownNext {
     }
 
     public int bestPlace(int blast, int n) {
+        // this call tells NONE ahead of its refusals
+        if (now.size == 0) {
+            return NONE;
+        }
         int refused = refusedStranger(blast, n);
         if (refused != 0) {
             return refused;
         }
-        int best = NONE;
-        int most = 0;
+        int best = 0;
+        int most = NONE;
         for (int i = 0; i < now.size; i++) {
             int done = doneByCustom(n, NOBODY, now.to[i], blast);
-            if (best == NONE || done > most) {
+            if (done > most) {
                 most = done;
                 best = i;
             }
@@ -635,7 +639,7 @@ public final class BlownNext {
             case 2:
                 return now.piecesDone();
             case 3:
-                return now.timesBurnt();
+                return now.burnings;
             case 4:
                 return now.workable();
             case 5:
@@ -702,6 +706,8 @@ public final class BlownNext {
         int minute;
         int lines;
         int loss = MOST_STROKES;
+        /** How often a PIECE was BURNT, those PIECES too in whose place others were begun. */
+        int burnings;
         final int[] blast = new int[MOST_SMITHS];
         final int[] cool = new int[MOST_SMITHS];
         final int[] heat = new int[MOST_SMITHS];
@@ -719,6 +725,7 @@ public final class BlownNext {
             minute = other.minute;
             lines = other.lines;
             loss = other.loss;
+            burnings = other.burnings;
             for (int i = 0; i < size; i++) {
                 blast[i] = other.blast[i];
                 cool[i] = other.cool[i];
@@ -737,6 +744,7 @@ public final class BlownNext {
             minute = 0;
             lines = 0;
             loss = MOST_STROKES;
+            burnings = 0;
         }
 
         /** Who was not told to blow a fire (NONE) blows the next one's. */
@@ -837,6 +845,7 @@ public final class BlownNext {
             if (!isDone(i) && strokes[i] > 0 && heat[i] > high[i]) {
                 strokes[i] = Math.max(0, strokes[i] - loss);
                 burnt[i]++;
+                burnings++;
             }
         }
 
@@ -876,14 +885,6 @@ public final class BlownNext {
                 done += isDone(i) ? 1 : 0;
             }
             return done;
-        }
-
-        int timesBurnt() {
-            int times = 0;
-            for (int i = 0; i < size; i++) {
-                times += burnt[i];
-            }
-            return times;
         }
 
         int heatTogether() {

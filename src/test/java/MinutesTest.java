@@ -253,5 +253,18 @@ public final class MinutesTest {
         x.arm(1, 25);
         CHECK.due("35 when, minute 9999 aside", x.when(0), 2);
         CHECK.due("43 minute", x.count(1), 9999);
+        lastMinuteWithoutSmiths();
+    }
+
+    private static void lastMinuteWithoutSmiths() {
+        BlownNext x = new BlownNext();
+        for (int k = 0; k < 49; k++) {
+            x.live(200);
+        }
+        x.live(199);
+        CHECK.due("10 minute 9999", x.count(1), 9999);
+        CHECK.due("13 custom(1)", x.custom(1), -5);
+        CHECK.due("33 none ahead of -5", x.bestPlace(1, 1), -1);
+        CHECK.due("34 swapped(1, 1)", x.swapped(1, 1), -5);
     }
 }

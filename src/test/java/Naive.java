@@ -50,6 +50,8 @@ final class Naive {
         int minute;
         int lines;
         int loss = 20;
+        /** The MINUTE of each burning, also of PIECES that are there no more. */
+        List<Integer> burntWhen = new ArrayList<>();
 
         Scene again() {
             Scene s = new Scene();
@@ -59,6 +61,7 @@ final class Naive {
             s.minute = minute;
             s.lines = lines;
             s.loss = loss;
+            s.burntWhen.addAll(burntWhen);
             return s;
         }
 
@@ -75,11 +78,7 @@ final class Naive {
         }
 
         int burnt() {
-            int k = 0;
-            for (Man m : men) {
-                k += m.burnt;
-            }
-            return k;
+            return burntWhen.size();
         }
 
         int minute(Set<Integer> pull, Set<Integer> strike, int[] also) {
@@ -109,6 +108,7 @@ final class Naive {
             for (Man m : men) {
                 if (!m.done() && m.has > 0 && m.heat > m.high) {
                     m.burnt++;
+                    burntWhen.add(minute);
                     m.has = m.has - loss < 0 ? 0 : m.has - loss;
                 }
             }
@@ -885,6 +885,9 @@ final class Naive {
     }
 
     int bestPlace(int blast, int n) {
+        if (now.n() == 0) {
+            return -1;
+        }
         if (blast < 0 || blast > 60) {
             return -3;
         }

@@ -8,6 +8,7 @@ public final class RowsTest {
         copies();
         images();
         counts();
+        countsOfOldPieces();
         CHECK.end();
     }
 
@@ -152,5 +153,40 @@ public final class RowsTest {
         CHECK.due("43 minute", x.count(1), 5);
         Check.feed(x, "smith 1;");
         CHECK.due("43 tape", x.count(6), 20);
+    }
+
+    /** What was BURNT stays so when new PIECES are begun, but not with a new street, nor behind an image. */
+    private static void countsOfOldPieces() {
+        BlownNext x = Check.streetOf("smith 60 heat 95;smith 60 heat 95;burnt 1;blows 0 0;blows 1 1;");
+        CHECK.due("41 image(0)", x.image(0), 0);
+        x.minute(0, 3);
+        x.minute(3, 0);
+        CHECK.due("43 both burnt", x.count(3), 2);
+        CHECK.due("9 piece(0, 0)", x.piece(0, 0), 0);
+        CHECK.due("43 both were burnt", x.count(3), 2);
+        CHECK.due("5 the new one was not", x.smith(0, 7), 0);
+        CHECK.due("5 the other one was", x.smith(1, 7), 1);
+        CHECK.due("9 piece(0, 5)", x.piece(0, 5), 0);
+        // 145 to 100, where it can be struck
+        x.live(9);
+        CHECK.due("5 heat", x.smith(0, 2), 100);
+        Check.row(x, 0, 0, 0, 1, 1, 0);
+        CHECK.due("11 burnt in these minutes alone", x.judge(0, 4), 1);
+        CHECK.due("43 as if", x.count(3), 2);
+        CHECK.due("41 image(1)", x.image(1), 0);
+        CHECK.due("12 perform", x.perform(0), 2);
+        CHECK.due("43 a third time", x.count(3), 3);
+        CHECK.due("5 the new one once", x.smith(0, 7), 1);
+        CHECK.due("9 refused", x.piece(0, 21), -3);
+        CHECK.due("5 still once", x.smith(0, 7), 1);
+        x.restore(1);
+        CHECK.due("42 as it was", x.count(3), 2);
+        x.restore(0);
+        CHECK.due("42 as it was at first", x.count(3), 0);
+        x.restore(1);
+        CHECK.due("3 a fault", Check.tell(x, "smith 61;"), -33);
+        CHECK.due("3 all stays", x.count(3), 2);
+        CHECK.due("3 a new street", Check.tell(x, "smith 60;"), 1);
+        CHECK.due("3 nothing was burnt in it", x.count(3), 0);
     }
 }

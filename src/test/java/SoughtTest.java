@@ -263,7 +263,12 @@ public final class SoughtTest {
         CHECK.due("30 no smiths, what 10", x.ropes(10), -2);
         CHECK.due("31 no smiths", x.lazy(0, 1), -2);
         CHECK.due("32 no smiths", x.stranger(0, 1, 1), -2);
-        CHECK.due("33 no smiths", x.bestPlace(1, 1), -1);
+        int[] some = {Integer.MIN_VALUE, -1, 0, 1, 60, 61, 200, 201, Integer.MAX_VALUE};
+        for (int blast : some) {
+            for (int n : some) {
+                CHECK.due("33 no smiths, (" + blast + ", " + n + ")", x.bestPlace(blast, n), -1);
+            }
+        }
         CHECK.due("34 no smiths", x.swapped(1, 0), 0);
         CHECK.due("34 no smiths", x.swapped(1, 1), -1);
         CHECK.due("35 no smiths", x.when(0), -2);

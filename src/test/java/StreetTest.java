@@ -201,6 +201,7 @@ public final class StreetTest {
         CHECK.due("9 needs", x.smith(0, 5), 20);
         CHECK.due("9 has", x.smith(0, 6), 0);
         CHECK.due("9 the new one was never burnt", x.smith(0, 7), 0);
+        CHECK.due("43 the old one was burnt", x.count(3), 1);
         CHECK.due("9 piece(0, 0)", x.piece(0, 0), 0);
         CHECK.due("9 done at once", x.smith(0, 9), 1);
     }
