@@ -66,6 +66,7 @@ public final class FaceTest {
             inside(inner);
         }
         source(Files.readString(Path.of("src/main/java/BlownNext.java")));
+        edgesOfEachPromise();
         CHECK.end();
     }
 
@@ -124,6 +125,17 @@ public final class FaceTest {
             is(inner + " " + m.getName() + " takes at most seven", m.getParameterCount() <= 7);
         }
         is("at most twelve classes", BlownNext.class.getDeclaredClasses().length < 12);
+    }
+
+    /** The labels of tests begin with the number of the promise. */
+    private static void edgesOfEachPromise() throws IOException {
+        StringBuilder edges = new StringBuilder();
+        for (String of : new String[] {"Text", "Smiths", "Minutes", "Rings", "Rhythms", "Sought", "Rows"}) {
+            edges.append(Files.readString(Path.of("src/test/java/" + of + "EdgesTest.java")));
+        }
+        for (int promise = 1; promise <= 43; promise++) {
+            is("boundary cases of promise " + promise, edges.indexOf("(\"" + promise + " ") >= 0);
+        }
     }
 
     private static void source(String text) {

@@ -8,6 +8,7 @@ public final class MinutesEdgesTest {
 
     public static void main(String[] args) {
         minuteAtFirst();
+        callsAtMost();
         strokesBetweenLowAndHigh();
         heatAsTheMinuteBegins();
         doneCountsNoMore();
@@ -55,6 +56,21 @@ public final class MinutesEdgesTest {
         CHECK.due("10 without SMITHS", x.minute(0, 0), 0);
         CHECK.due("43 MINUTE", x.count(1), 1);
         CHECK.due("43 MINUTE of a street", Edge.two().count(1), 0);
+    }
+
+    /** "used for at most 512 calls": the 512th is answered as any. */
+    private static void callsAtMost() {
+        BlownNext x = Edge.fresh();
+        x.feed(0x736d6974, 0x68203020, 0x636f6f6c, 0x20302068, 0x65617420);
+        x.feed(0x3530203b, 0x20202020, 0x20202020, 0x20202020, 0x20202020);
+        CHECK.due("3 the third call", x.street(40), 1);
+        for (int k = 3; k < 508; k += 2) {
+            CHECK.due("10 a stroke that counts", x.minute(0, 1), 1);
+            CHECK.due("9 a new PIECE", x.piece(0, 2), 1);
+        }
+        CHECK.due("43 the 510th call", x.count(1), 253);
+        CHECK.due("27 the 511th call", x.soonest(), 2);
+        CHECK.due("5 the 512th call", x.smith(0, 2), 50);
     }
 
     private static void strikes(String street, int due) {
@@ -329,6 +345,9 @@ public final class MinutesEdgesTest {
         judged(Edge.two(), "three numbers", 1, 3, 0, 3, 0, 3);
         judged(Edge.two(), "39 numbers", 19, 3, 0, new long[39]);
         judged(Edge.two(), "40 numbers", -1, 0, 0, new long[40]);
+        BlownNext x = Edge.two();
+        judged(x, "one number", 0, 3, 0, 3);
+        judged(x, "no numbers behind that", -1, 0, 0);
     }
 
     /** "4 MINUTE is 9999". */

@@ -24,11 +24,13 @@ public final class RhythmsEdgesTest {
         evensCodes();
         wavesLengths();
         wavesSteps();
+        wavesFirst();
         wavesWrap();
         bestWaves();
         bestWavesLengths();
         bestRoundsNumbers();
         bestRoundsSmiths();
+        bestRoundsFirst();
         bestRoundsNone();
         bestRoundsCodes();
         bestRoundsCodesInOrder();
@@ -275,6 +277,19 @@ public final class RhythmsEdgesTest {
         EDGE.keeps("22 wave(12, most)", Edge::worked, -3, x -> x.wave(12, Integer.MAX_VALUE));
     }
 
+    /** SMITH 0 pulls at t 0, whatever the STEP, and whatever RHYTHM was asked for before. */
+    private static void wavesFirst() {
+        String[] fires = {"low 100 high 155;", "low 101 high 155;", "low 100 high 154;"};
+        int[] due = {-1, 12, 1};
+        for (int k = 0; k < 3; k++) {
+            BlownNext x = rhythm("smith 60 heat 100 " + fires[k], 1, 0);
+            for (int step = 0; step < 12; step++) {
+                CHECK.due("22 STEP " + step + " for SMITH 0, " + fires[k], x.wave(12, step), due[k]);
+                CHECK.due("20 no pulls", x.holds(0, 12, 0), 1);
+            }
+        }
+    }
+
     /** "when t less i times STEP, modulo LENGTH, is 0": of SMITH 9 and STEP 11 at t 3. */
     private static void wavesWrap() {
         String others = "smith 0 low 0 high 200;".repeat(8) + "smith 12 low 0 high 200;";
@@ -361,6 +376,20 @@ public final class RhythmsEdgesTest {
         }
         EDGE.keeps("24 three times four", Edge::worked, -4, x -> x.bestRound(4, 0));
         EDGE.keeps("24 three times three", Edge::worked, -1, x -> x.bestRound(3, 0));
+    }
+
+    /** "those with the fewest pulls .., of these the first by SMITHS' numbers (SMITH 0's least, then 1's ..)". */
+    private static void bestRoundsFirst() {
+        String both = "smith 10 cool 0 heat 50;blows 0 0;blows 1 0;";
+        round("smith 10 heat 50 low 45 high 55;" + both, 2, 1, 0, 1);
+        round("smith 10 heat 50 low 45 high 54;" + both, 2, 1, 0, 2);
+        round("smith 10 heat 50 low 44 high 54;" + both, 2, 1, 0, 2);
+        round("smith 10 heat 50 low 46 high 54;" + both, 2, -1, -1, -1);
+        // three of 5 in three MINUTES, one each; the last one's least number comes last
+        String three = "smith 5 cool 0 heat 50;smith 5 cool 0 heat 50;blows 0 0;blows 1 0;blows 2 0;";
+        round("smith 5 heat 50 low 50 high 50;" + three, 3, 3, 0, 0, 7);
+        // fewer pulls of a stronger one are better than a lesser number
+        round("smith 15 heat 50 low 40 high 60;" + three, 3, 1, 1, 0, 0);
     }
 
     /** bestRound: "NONE: none HOLDS". */

@@ -22,6 +22,7 @@ public final class RowsEdgesTest {
         imagesNoneAtFirst();
         imagesAreTwo();
         whatAnImageHas();
+        imagesOfBurntOnes();
         whatAnImageHasNot();
         countsWhat();
         countsAtBounds();
@@ -292,6 +293,27 @@ public final class RowsEdgesTest {
         for (int k = 0; k < were.length; k++) {
             CHECK.due("42 as it was, answer " + k, are[k], were[k]);
         }
+    }
+
+    /** Strokes and how often BURNT, of each PIECE and in all, go back to what they were. */
+    private static void imagesOfBurntOnes() {
+        BlownNext x = Check.streetOf("smith 60 cool 0 heat 90 piece 4;burnt 1;");
+        x.image(0);
+        x.minute(0, 1);
+        x.minute(0, 1);
+        x.minute(1, 0);
+        x.image(1);
+        x.minute(0, 0);
+        int[][] due = {{0, 0, 0}, {1, 1, 1}, {0, 2, 2}};
+        for (int k = 2; k >= 0; k--) {
+            CHECK.due("42 strokes, " + k, x.smith(0, 6), due[k][0]);
+            CHECK.due("42 his PIECE BURNT, " + k, x.smith(0, 7), due[k][1]);
+            CHECK.due("42 BURNT in all, " + k, x.count(3), due[k][2]);
+            x.restore(k > 0 ? k - 1 : 0);
+        }
+        x.restore(1);
+        CHECK.due("42 his PIECE BURNT, again", x.smith(0, 7), 1);
+        CHECK.due("42 BURNT in all, again", x.count(3), 1);
     }
 
     /** THE TAPE, the ROWS and the FAULT are not of THE STREET: they stay as they are now. */

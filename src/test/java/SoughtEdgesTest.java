@@ -18,6 +18,7 @@ public final class SoughtEdgesTest {
         soonestsSmiths();
         spentBehindWhichMinute();
         spentOrNone();
+        soughtAgain();
         soonestNone();
         seenNumbers();
         seenCodes();
@@ -104,6 +105,8 @@ public final class SoughtEdgesTest {
             + "smith 58 cool 1 heat 64 low 43 high 80 piece 2;burnt 8;blows 0 0;blows 1 0;blows 2 2;", 15);
         soonest("smith 42 cool 4 heat 194 low 54 high 109 piece 0;smith 0 cool 1 heat 21 low 0 high 15 piece 1;"
             + "smith 38 cool 11 heat 199 low 24 high 89 piece 3;burnt 15;blows 0 2;blows 1 2;blows 2 0;", 13);
+        // far more than 3,000 STATES in one MINUTE
+        soonest("smith 7 piece 20;smith 11 cool 3 piece 20;smith 13 cool 2 piece 20;", -4);
         // 3,001 STATES were met ahead of it
         soonest("smith 30 cool 10 heat 86 low 27 high 88 piece 3;smith 0 cool 1 heat 107 low 0 high 60 piece 1;burnt 19;"
             + "blows 0 0;blows 1 0;", -4);
@@ -113,6 +116,28 @@ public final class SoughtEdgesTest {
             + "smith 32 cool 10 heat 99 low 44 high 58 piece 1;burnt 7;blows 0 0;blows 1 0;blows 2 2;", -4);
         soonest("smith 6 cool 10 heat 96 low 54 high 89 piece 0;smith 0 cool 1 heat 58 low 0 high 39 piece 1;"
             + "smith 24 cool 2 heat 65 low 20 high 84 piece 2;burnt 12;blows 0 0;blows 1 0;blows 2 0;", -4);
+    }
+
+    /** A search knows nothing of those before it. */
+    private static void soughtAgain() {
+        BlownNext x = Check.streetOf("smith 7 heat 50 piece 20;smith 11 cool 3 heat 50 piece 20;smith 13 cool 2 heat 50 piece 20;");
+        for (int k = 0; k < 2; k++) {
+            CHECK.due("27 SPENT", x.soonest(), -4);
+            x.image(0);
+            x.piece(0, 2);
+            x.piece(1, 2);
+            x.piece(2, 2);
+            CHECK.due("27 two strokes each", x.soonest(), 2);
+            CHECK.due("27 the same again", x.soonest(), 2);
+            x.piece(1, 0);
+            x.piece(2, 0);
+            x.minute(0, 1);
+            CHECK.due("27 one stroke", x.soonest(), 1);
+            Check.tell(x, "smith 5 heat 19 piece 1;");
+            CHECK.due("27 never", x.soonest(), -1);
+            CHECK.due("27 never", x.soonest(), -1);
+            x.restore(0);
+        }
     }
 
     /** "NONE, if there are no new ones": with 3,000 STATES in all, or with 3,001. */

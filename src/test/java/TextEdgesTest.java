@@ -38,6 +38,7 @@ public final class TextEdgesTest {
         firstAlongTheText();
         leastKind();
         faultsOfOthers();
+        rowsAndImagesStay();
         CHECK.end();
     }
 
@@ -135,6 +136,13 @@ public final class TextEdgesTest {
         CHECK.due("3 one SMITH", x.count(0), 1);
         CHECK.due("3 what is lost is as without", x.count(8), 20);
         CHECK.due("3 nothing was BURNT", x.count(3), 0);
+        CHECK.due("3 his PIECE never", x.smith(0, 7), 0);
+        x = Edge.worked();
+        CHECK.due("11 as if done", x.judge(1, 2), 1);
+        CHECK.due("13 as if done", x.custom(9), 2);
+        CHECK.due("3 a street behind them", x.street(20), 1);
+        CHECK.due("3 nothing was BURNT in it", x.count(3), 0);
+        CHECK.due("3 no strokes", x.smith(0, 6), 0);
         x = Edge.last();
         CHECK.due("3 at MINUTE 9999", x.street(20), 1);
         CHECK.due("3 MINUTE is 0 again", x.count(1), 0);
@@ -357,8 +365,28 @@ public final class TextEdgesTest {
         fault("mith 1;", 2, 0);
         fault("blow 0 0;", 2, 0);
         fault("burn 1;", 2, 0);
+        for (String word : new String[] {"smith", "blows", "burnt"}) {
+            for (String other : oneLetterOff(word)) {
+                fault("smith 1;" + other + " 0 0;", 2, 8);
+            }
+        }
+        for (String word : new String[] {"cool", "heat", "low", "high", "piece"}) {
+            for (String other : oneLetterOff(word)) {
+                fault("smith 1 " + other + " 20;", 2, 8);
+            }
+        }
         fault("smith 1 coo 1;", 2, 8);
         fault("smith 1 cools 1;", 2, 8);
+    }
+
+    private static String[] oneLetterOff(String word) {
+        String[] others = new String[word.length() + 2];
+        for (int k = 0; k < word.length(); k++) {
+            others[k] = word.substring(0, k) + 'x' + word.substring(k + 1);
+        }
+        others[word.length()] = word.substring(1);
+        others[word.length() + 1] = word + 'x';
+        return others;
     }
 
     /** "N (1 to 3 digits)"; "4 digits and more: at their first". */
@@ -472,6 +500,28 @@ public final class TextEdgesTest {
         // the SIGN is missing: a word can't stand there, whichever it is
         fault(NINE + "smith 0 smith 0;", 2, 80);
         fault(TEN + "smiths 0;", 2, 80);
+    }
+
+    /** street: "(all stays with a FAULT)", the ROWS OF NUMBERS and the IMAGES too. */
+    private static void rowsAndImagesStay() {
+        for (String text : new String[] {",", ";", "smith 0;burnt 21;", TEN + "smith 1;"}) {
+            BlownNext x = Edge.worked();
+            x.street(0);
+            x.restore(0);
+            x.minute(4, 2);
+            BlownNext y = Edge.worked();
+            y.street(0);
+            y.restore(0);
+            y.minute(4, 2);
+            CHECK.due("3 a FAULT", Check.tell(x, text) < -30 ? 1 : 0, 1);
+            CHECK.due("28 the ROW stays", x.seen(0), 1);
+            // a text without LINES makes all like again, but for what was kept
+            x.image(1);
+            y.image(1);
+            x.street(0);
+            y.street(0);
+            CHECK.due("3 all stays", Arrays.equals(Edge.all(x), Edge.all(y)) ? 1 : 0, 1);
+        }
     }
 
     /** fault: "NONE for others"; "of the latest street() that was read". */
