@@ -65,7 +65,9 @@ public final class FaceTest {
         for (Class<?> inner : BlownNext.class.getDeclaredClasses()) {
             inside(inner);
         }
-        source(Files.readString(Path.of("src/main/java/BlownNext.java")));
+        String text = Files.readString(Path.of("src/main/java/BlownNext.java"));
+        source(text);
+        documentsFace(text, Files.readString(Path.of("../shared/DOC.md")));
         edgesOfEachPromise();
         CHECK.end();
     }
@@ -125,6 +127,24 @@ public final class FaceTest {
             is(inner + " " + m.getName() + " takes at most seven", m.getParameterCount() <= 7);
         }
         is("at most twelve classes", BlownNext.class.getDeclaredClasses().length < 12);
+    }
+
+    /** The face as the document writes it, names of parameters too, in its order. */
+    private static void documentsFace(String text, String document) {
+        Matcher block = Pattern.compile("(?s)```java\n(public final class BlownNext .*?)```").matcher(document);
+        is("the document has a face", block.find());
+        int at = 0;
+        int members = 0;
+        for (String line : block.group(1).split("\n")) {
+            if (line.startsWith("    public ")) {
+                String member = line.contains("=") ? line : line.substring(0, line.length() - 1) + " {";
+                int found = text.indexOf(member, at);
+                is("the class has, in the document's order," + line, found >= 0);
+                at = Math.max(at, found);
+                members++;
+            }
+        }
+        CHECK.due("members of the face", members, 44);
     }
 
     /** The labels of tests begin with the number of the promise. */
